@@ -1,0 +1,79 @@
+import java.io.IOException;
+import java.lang.reflect.Constructor;
+import java.lang.reflect.Field;
+import java.lang.reflect.Method;
+import java.lang.reflect.Modifier;
+import java.nio.file.Files;
+import java.nio.file.Path;
+import java.util.Arrays;
+import java.util.TreeSet;
+
+/** The public face is the document's, and the source holds nothing that the language's rules leave out. */
+public final class FaceTest {
+    private static final Check check = new Check();
+
+    private static final String[] FACE = {
+        "int builtin(int)", "int name(int)", "int member(int,int)", "int fill(int,int,int,int)", "int wrap(int,int)",
+        "int array(int,int)", "int function(int,int,int,int)", "int literal(int,int)", "int entity(int,int,int,int,int)",
+        "int of(int,int)", "int write(int)", "boolean type(long)", "void wipe()", "int text(int)", "int read()",
+        "int table(int)", "int look(int)",
+    };
+
+    private static final String[] LEFT_OUT = {
+        "import ", "package ", "java.", "catch", "finally", "synchronized", "assert ", "->", "::", "lambda", "Character.",
+        "Objects.", "Exact(", "System.out", "Random", "Thread", "double ", "float ", "static {",
+    };
+
+    public static void main(String[] args) throws IOException {
+        methods();
+        otherMembers();
+        source();
+        check.end();
+    }
+
+    private static void methods() {
+        TreeSet<String> names = new TreeSet<>();
+        TreeSet<String> open = new TreeSet<>();
+        for (Method method : NameWriter.class.getDeclaredMethods()) {
+            if (!Modifier.isPrivate(method.getModifiers())) {
+                check.same(method + " is public", Modifier.isPublic(method.getModifiers()), true);
+                String taken = Arrays.toString(method.getParameterTypes()).replaceAll("[\\[\\] ]", "");
+                open.add(method.getReturnType() + " " + method.getName() + "(" + taken + ")");
+                names.add(method.getName());
+            }
+        }
+        check.same("methods", open, new TreeSet<>(Arrays.asList(FACE)));
+        for (Class<?> inner : NameWriter.class.getDeclaredClasses()) {
+            check.same(inner + " is static", Modifier.isStatic(inner.getModifiers()), true);
+            privateNames(inner, names);
+        }
+        privateNames(NameWriter.class, names);
+    }
+
+    private static void privateNames(Class<?> owner, TreeSet<String> names) {
+        for (Method method : owner.getDeclaredMethods()) {
+            boolean isPrivate = Modifier.isPrivate(method.getModifiers());
+            check.same(method + " has a name of its own", isPrivate && names.contains(method.getName()), false);
+            check.same(method + " takes at most seven", method.getParameterCount() <= 7, true);
+        }
+    }
+
+    private static void otherMembers() {
+        check.same("final", Modifier.isFinal(NameWriter.class.getModifiers()), true);
+        check.same("public", Modifier.isPublic(NameWriter.class.getModifiers()), true);
+        Constructor<?>[] constructors = NameWriter.class.getDeclaredConstructors();
+        check.answers("constructors", 1, () -> constructors.length);
+        check.answers("what it takes", 0, () -> constructors[0].getParameterCount());
+        for (Field field : NameWriter.class.getDeclaredFields()) {
+            boolean isPrivate = Modifier.isPrivate(field.getModifiers());
+            check.same(field + " is private", isPrivate, !field.getName().equals("NONE"));
+        }
+    }
+
+    private static void source() throws IOException {
+        String source = Files.readString(Path.of("src/main/java/NameWriter.java"));
+        for (String piece : LEFT_OUT) {
+            check.same("the source has " + piece, source.contains(piece), false);
+        }
+    }
+}
