@@ -452,9 +452,9 @@ public final class NameWriter {
     private static final class Writer {
         private static final String WRAPPING_LETTERS = "PRK";
 
+        final Row letters = new Row();
+        final Row told = new Row();
         private final Nodes nodes;
-        private final Row letters = new Row();
-        private final Row told = new Row();
 
         Writer(Nodes nodes) {
             this.nodes = nodes;
@@ -665,9 +665,9 @@ public final class NameWriter {
         private static final int DIGITS_OF_LITERAL = 6;
         private static final int DIGITS_OF_TOLD = 2;
 
+        final Row told = new Row();
         private final Nodes nodes;
         private final Row letters;
-        private final Row told = new Row();
         private int place;
 
         Reader(Nodes nodes, Row letters) {

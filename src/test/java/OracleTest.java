@@ -56,7 +56,10 @@ public final class OracleTest {
             if (random.nextInt(4) == 0) {
                 write();
             }
-            probe();
+            // Not always: a probe must not be what clears up behind a call that threw.
+            if (random.nextInt(3) != 0) {
+                probe();
+            }
         }
     }
 

@@ -13,6 +13,7 @@ public final class ReadTest {
         depth();
         manyNodes();
         refusalsChangeNothing();
+        buildingBehindRefusals();
         check.end();
     }
 
@@ -148,10 +149,18 @@ public final class ReadTest {
             "_ZN" + "1aIvE".repeat(7) + "1bEi", "_Z1f" + "P".repeat(12) + "1aILi5EE",
             "_Z1f" + "P".repeat(13) + "iPSB_", "_Z1aI" + "P".repeat(13) + "iEvi", "_Z1aIiE" + "P".repeat(14) + "iv",
             "_Z1fii" + "P".repeat(14) + "i", "_Z1f1aIii" + "P".repeat(13) + "iE", "_Z1fFiii" + "P".repeat(13) + "iE",
+            "_Z1fFii" + "P".repeat(13) + "iE", "_Z1fFi" + "P".repeat(13) + "iE", "_Z1fN1a1bI" + "P".repeat(13) + "iEE",
+            "_Z1fN1aI" + "P".repeat(12) + "iE1bE", "_Z1fN1aIi" + "P".repeat(11) + "iE1b1cE",
+            "_Z1f" + "P".repeat(12) + "N1a1b1cE", "_Z1f" + "N1a1bI".repeat(13) + "N1c1dE" + "EE".repeat(13),
+            "_ZN" + "1a".repeat(14) + "IiEEii", "_Z1fN" + "1a".repeat(14) + "IiEE", "_Z1fN" + "1a".repeat(13) + "IiE1bE",
         };
         for (String text : deepest) {
             NameWriter x = new NameWriter();
-            check.answers("the depth of " + text, 16, () -> x.of(Check.read(x, text), 7));
+            int entity = Check.read(x, text);
+            check.answers("the depth of " + text, 16, () -> x.of(entity, 7));
+            x.wipe();
+            check.same("written again: " + text, x.write(entity) <= text.length(), true);
+            check.answers("read again: " + text, entity, x::read);
         }
         String[] tooDeep = {
             "_Z1f" + "P".repeat(15) + "i", "_Z1f" + "A1_".repeat(15) + "i", "_Z1f" + "F".repeat(15) + "i" + "vE".repeat(15),
@@ -216,5 +225,35 @@ public final class ReadTest {
         check.refuses("again", Check.BAD, x::read);
         check.refuses("a node that was never made", Check.BAD, () -> x.write(4));
         check.answers("the next number", 4, () -> x.builtin(2));
+    }
+
+    /** A call on an object in which a reading was just refused. */
+    private interface NextCall {
+        int on(NameWriter x);
+    }
+
+    private static NameWriter justRefused() {
+        NameWriter x = new NameWriter();
+        x.builtin(4);
+        Check.read(x, "_Z1a1b");
+        Check.load(x, "_Z1cPKbi_");
+        check.refuses("wrong at the end", Check.BAD, x::read);
+        return x;
+    }
+
+    private static void buildingBehindRefusals() {
+        NextCall[] makers = {
+            x -> x.builtin(7), x -> x.name(Check.id("q")), x -> x.member(1, Check.id("q")), x -> x.fill(1, 0, 0, 0),
+            x -> x.wrap(5, 1), x -> x.array(1, 77), x -> x.function(1, NONE, NONE, NONE), x -> x.literal(0, 77),
+            x -> x.entity(1, NONE, 1, 1, 1), x -> Check.read(x, "_Z1a1b1b"),
+        };
+        for (NextCall maker : makers) {
+            NameWriter x = justRefused();
+            check.answers("the next number", 4, () -> maker.on(x));
+            check.answers("nodes", 5, () -> x.look(0));
+        }
+        check.refuses("a node that was never made", Check.BAD, () -> justRefused().wrap(4, 5));
+        check.refuses("a node that was never made", Check.BAD, () -> justRefused().write(4));
+        check.answers("a node that was never made", NONE, () -> justRefused().of(4, 0));
     }
 }

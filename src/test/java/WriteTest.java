@@ -116,8 +116,8 @@ public final class WriteTest {
         int zero = x.literal(i, 0);
         int filled = x.fill(a, zero, x.literal(b, -1), x.literal(i, -999999));
         writes(x, x.entity(a, NONE, filled, NONE, NONE), "_Z1a1aILi0ELbn1ELin999999EE");
-        int other = x.fill(a, x.literal(i, 10), x.literal(b, 100305), zero);
-        writes(x, x.entity(a, NONE, other, filled, other), "_Z1a1aILi10ELb100305ELi0EES_ILi0ELbn1ELin999999EES0_");
+        int other = x.fill(a, x.literal(i, 10), x.literal(b, 100000), zero);
+        writes(x, x.entity(a, NONE, other, filled, other), "_Z1a1aILi10ELb100000ELi0EES_ILi0ELbn1ELin999999EES0_");
     }
 
     /** An entity of 120 characters is written, one of 121 is not. */
