@@ -7,6 +7,7 @@ public final class BuildTest {
         newObject();
         builtin();
         name();
+        kinds();
         member();
         fill();
         wrap();
@@ -66,26 +67,13 @@ public final class BuildTest {
         check.answers("nodes", right.length, () -> x.look(0));
     }
 
-    /** One node of each kind, at its kind's number. */
-    private static NameWriter zoo() {
-        NameWriter x = new NameWriter();
-        int i = x.builtin(4);
-        int a = x.name(Check.id("a"));
-        x.member(a, Check.id("b"));
-        x.fill(a, i, NONE, NONE);
-        x.wrap(4, i);
-        x.wrap(5, i);
-        x.wrap(6, i);
-        x.array(i, 7);
-        x.function(i, i, NONE, NONE);
-        x.literal(i, 5);
-        x.entity(a, NONE, i, NONE, NONE);
+    private static void kinds() {
+        NameWriter x = Zoo.make();
         check.answers("nodes", 11, () -> x.look(0));
         for (int kind = 0; kind < 11; kind++) {
             int node = kind;
             check.answers("kind", kind, () -> x.of(node, 0));
         }
-        return x;
     }
 
     /** For each node of the zoo, and numbers that no node has, whether the call takes it. */
@@ -95,14 +83,14 @@ public final class BuildTest {
 
     private static void takes(String what, int lowest, int highest, Taking taking) {
         for (int node = -3; node < 14; node++) {
-            NameWriter x = zoo();
+            NameWriter x = Zoo.make();
             int part = node;
             boolean right = node >= lowest && node <= highest;
             String got = Check.outcome(() -> taking.take(x, part));
             check.same(what + " of " + node, got.equals(Check.BAD), !right);
         }
         for (int node : new int[] {60, Integer.MIN_VALUE, Integer.MAX_VALUE}) {
-            NameWriter x = zoo();
+            NameWriter x = Zoo.make();
             check.refuses(what, Check.BAD, () -> taking.take(x, node));
         }
     }
@@ -123,7 +111,7 @@ public final class BuildTest {
     }
 
     private static void fill() {
-        NameWriter x = zoo();
+        NameWriter x = Zoo.make();
         check.answers("fill", 11, () -> x.fill(1, 0, 9, 2));
         check.same("cells", Check.cellsOf(x, 11), "3 0 1 -1 0 9 2 3");
         check.answers("fill a member", 12, () -> x.fill(2, 9, NONE, NONE));
@@ -144,7 +132,7 @@ public final class BuildTest {
     }
 
     private static void wrap() {
-        NameWriter x = zoo();
+        NameWriter x = Zoo.make();
         check.same("pointer", Check.cellsOf(x, 4), "4 0 0 -1 -1 -1 -1 2");
         check.same("reference", Check.cellsOf(x, 5), "5 0 0 -1 -1 -1 -1 2");
         check.same("const", Check.cellsOf(x, 6), "6 0 0 -1 -1 -1 -1 2");
@@ -163,7 +151,7 @@ public final class BuildTest {
     }
 
     private static void array() {
-        NameWriter x = zoo();
+        NameWriter x = Zoo.make();
         check.same("array", Check.cellsOf(x, 7), "7 7 0 -1 -1 -1 -1 2");
         check.answers("again", 7, () -> x.array(0, 7));
         check.answers("other number", 11, () -> x.array(0, 1));
@@ -175,7 +163,7 @@ public final class BuildTest {
     }
 
     private static void function() {
-        NameWriter x = zoo();
+        NameWriter x = Zoo.make();
         int v = x.builtin(0);
         check.answers("no parameters", 12, () -> x.function(v, NONE, NONE, NONE));
         check.same("cells", Check.cellsOf(x, 12), "8 0 11 -1 -1 -1 -1 2");
@@ -197,7 +185,7 @@ public final class BuildTest {
     }
 
     private static void literal() {
-        NameWriter x = zoo();
+        NameWriter x = Zoo.make();
         check.same("literal", Check.cellsOf(x, 9), "9 5 0 -1 -1 -1 -1 2");
         check.answers("again", 9, () -> x.literal(0, 5));
         check.answers("other sign", 11, () -> x.literal(0, -5));
@@ -214,7 +202,7 @@ public final class BuildTest {
     }
 
     private static void entity() {
-        NameWriter x = zoo();
+        NameWriter x = Zoo.make();
         int v = x.builtin(0);
         check.same("entity", Check.cellsOf(x, 10), "10 0 1 -1 0 -1 -1 2");
         check.answers("again", 10, () -> x.entity(1, NONE, 0, NONE, NONE));
@@ -237,7 +225,7 @@ public final class BuildTest {
     }
 
     private static void of() {
-        NameWriter x = zoo();
+        NameWriter x = Zoo.make();
         for (int w : new int[] {-1, 8, 9, Integer.MAX_VALUE, Integer.MIN_VALUE}) {
             check.answers("no such w " + w, NONE, () -> x.of(0, w));
             check.answers("no such w " + w, NONE, () -> x.of(10, w));
@@ -295,7 +283,7 @@ public final class BuildTest {
     }
 
     private static void sixtyNodes() {
-        NameWriter x = zoo();
+        NameWriter x = Zoo.make();
         Check.crowd(x, 59);
         check.answers("the sixtieth", 59, () -> x.builtin(1));
         check.answers("nodes", 60, () -> x.look(0));
@@ -324,7 +312,7 @@ public final class BuildTest {
     }
 
     private static void refusalsChangeNothing() {
-        NameWriter x = zoo();
+        NameWriter x = Zoo.make();
         check.refuses("wrap", Check.BAD, () -> x.wrap(6, 6));
         check.refuses("member", Check.BAD, () -> x.member(1, 0));
         check.answers("nodes", 11, () -> x.look(0));

@@ -7,17 +7,29 @@ final class Check {
 
     private int asked;
     private int wrong;
+    private String sentence = "";
 
     /** A call that answers a number. */
     interface Call {
         long answer();
     }
 
+    /** The test of one sentence of the document; its words stand ahead of each answer that is not as due. */
+    void sentence(String words, Runnable test) {
+        sentence = "'" + words + "': ";
+        try {
+            test.run();
+        } catch (RuntimeException e) {
+            same("the test", e.toString(), "no exception");
+        }
+        sentence = "";
+    }
+
     void same(String what, Object got, Object due) {
         asked++;
         if (!got.equals(due)) {
             wrong++;
-            System.out.println(what + " answered " + got + ", due is " + due);
+            System.out.println(sentence + what + " answered " + got + ", due is " + due);
         }
     }
 
@@ -27,6 +39,13 @@ final class Check {
 
     void refuses(String what, String exception, Call call) {
         same(what, outcome(call), exception);
+    }
+
+    /** The call is refused, and the object is as it was. */
+    void refusesUnchanged(String what, String exception, NameWriter x, Call call) {
+        String before = stateOf(x);
+        refuses(what, exception, call);
+        same("the state behind " + what, stateOf(x), before);
     }
 
     /** What the call answers, or the plain name of what it throws, as a text. */
@@ -75,16 +94,18 @@ final class Check {
 
     static String textOf(NameWriter x) {
         StringBuilder letters = new StringBuilder();
-        for (int i = 0; x.text(i) != NONE; i++) {
-            letters.append((char) x.text(i));
+        for (int letter = x.text(0); letter != NONE; letter = x.text(letters.length())) {
+            letters.append((char) letter);
         }
         return letters.toString();
     }
 
     static String tableOf(NameWriter x) {
         StringBuilder row = new StringBuilder();
-        for (int i = 0; x.table(i) != NONE; i++) {
-            row.append(i == 0 ? "" : " ").append(x.table(i));
+        int count = 0;
+        for (int node = x.table(0); node != NONE; node = x.table(count)) {
+            row.append(count == 0 ? "" : " ").append(node);
+            count++;
         }
         return row.toString();
     }
@@ -96,6 +117,20 @@ final class Check {
             row.append(w == 0 ? "" : " ").append(x.of(node, w));
         }
         return row.toString();
+    }
+
+    /**
+     * Counts, the cells of the last nodes and of the one behind them, the text and the table: not of all nodes, as an
+     * object is used for 512 calls alone.
+     */
+    static String stateOf(NameWriter x) {
+        StringBuilder state = new StringBuilder();
+        int nodes = x.look(0);
+        state.append(nodes).append(' ').append(x.look(1)).append(' ').append(x.look(2));
+        for (int node = Math.max(0, nodes - 8); node <= nodes; node++) {
+            state.append(" / ").append(cellsOf(x, node));
+        }
+        return state.append(" / ").append(textOf(x)).append(" / ").append(tableOf(x)).toString();
     }
 
     static String written(NameWriter x, int entity) {

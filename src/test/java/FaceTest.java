@@ -19,9 +19,12 @@ public final class FaceTest {
         "int table(int)", "int look(int)",
     };
 
+    /** What no program within the rules of the language has outside comments and texts. */
     private static final String[] LEFT_OUT = {
-        "import ", "package ", "java.", "catch", "finally", "synchronized", "assert ", "->", "::", "lambda", "Character.",
-        "Objects.", "Exact(", "System.out", "Random", "Thread", "double ", "float ", "static {",
+        "package ", "finally", "synchronized", "assert ", "::", "Character.", "Objects.", "Exact(", "System.out", "System.err",
+        "currentTimeMillis", "nanoTime", "Random", "Thread", "static {", "Math.sqrt", "getMessage", "catch (Throwable",
+        "catch (Exception", "catch (ArrayIndex", "catch (NullPointer", "catch (ClassCast", "catch (NegativeArray",
+        "catch (ArrayStore",
     };
 
     public static void main(String[] args) throws IOException {
@@ -71,7 +74,8 @@ public final class FaceTest {
     }
 
     private static void source() throws IOException {
-        String source = Files.readString(Path.of("src/main/java/NameWriter.java"));
+        String source = Files.readString(Path.of("src/main/java/NameWriter.java"))
+            .replaceAll("(?s)/\\*.*?\\*/", "").replaceAll("//.*", "").replaceAll("\"[^\"\n]*\"", "\"\"");
         for (String piece : LEFT_OUT) {
             check.same("the source has " + piece, source.contains(piece), false);
         }

@@ -4,6 +4,7 @@ import java.util.Random;
 public final class OracleTest {
     private static final int RUNS = 4000;
     private static final int MOST_CALLS = 512;
+    private static final int MOST_IN_A_STEP = 32;
     private static final Check check = new Check();
 
     private final Random random;
@@ -47,7 +48,7 @@ public final class OracleTest {
         if (random.nextInt(4) == 0) {
             tower();
         }
-        while (calls < MOST_CALLS - 20) {
+        while (calls < MOST_CALLS - MOST_IN_A_STEP) {
             if (style == 0 || style == 1 && random.nextInt(3) != 0) {
                 build();
             } else {
