@@ -345,8 +345,15 @@ public final class NodeEdgeTest {
         for (Zoo.Maker maker : Zoo.oldOnes()) {
             check.answers(maker.call() + " is there", maker.kind(), () -> maker.on(x));
         }
-        check.refuses("no such k", BAD, () -> x.builtin(8));
-        check.refuses("no such type", BAD, () -> x.wrap(4, 60));
+        check.refuses("wrong: builtin", BAD, () -> x.builtin(8));
+        check.refuses("wrong: name", BAD, () -> x.name(0));
+        check.refuses("wrong: member", BAD, () -> x.member(60, 'q'));
+        check.refuses("wrong: fill", BAD, () -> x.fill(1, 60, NONE, NONE));
+        check.refuses("wrong: wrap", BAD, () -> x.wrap(4, 60));
+        check.refuses("wrong: array", BAD, () -> x.array(0, 1000));
+        check.refuses("wrong: function", BAD, () -> x.function(0, NONE, 0, NONE));
+        check.refuses("wrong: literal", BAD, () -> x.literal(0, 1000000));
+        check.refuses("wrong: entity", BAD, () -> x.entity(1, 0, NONE, NONE, NONE));
         check.answers("nodes", 60, () -> x.look(0));
     }
 

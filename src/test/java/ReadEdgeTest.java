@@ -250,7 +250,8 @@ public final class ReadEdgeTest {
         });
         check.sentence("or N .. E", () -> {
             reads("_ZN1a1bES_", "a::b(a)", "a");
-            refuses("_ZPiv", "_Ziv", "_ZS_v", "_ZA1_iv", "_ZFivEv", "_ZRiv", "_ZKiv", "_ZLi5Ev", "_ZIiEv", "_ZEv", "_ZN1a1bEE", "_ZN1a1bEIiEvv");
+            refuses("_ZPiv", "_Ziv", "_ZS_v", "_ZA1_iv", "_ZFivEv", "_ZRiv", "_ZKiv", "_ZLi5Ev", "_ZIiEv", "_ZEv", "_ZN1a1bEE",
+                "_ZN1a1bEIiEvv");
         });
         check.sentence("for a FILLED one a type", () -> {
             reads("_Z1aIiEvi", "a<i>:v(i)", "a");
