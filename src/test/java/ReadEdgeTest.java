@@ -398,6 +398,12 @@ public final class ReadEdgeTest {
             check.refuses("wrap", BAD, () -> wronglyRead().wrap(4, never));
             check.refuses("write", BAD, () -> wronglyRead().write(never));
         }
+        for (int node = 57; node <= 61; node++) {
+            int never = node;
+            check.answers("of in a crowd", Check.NONE, () -> crowdedRead().of(never, 0));
+            check.refuses("wrap in a crowd", BAD, () -> crowdedRead().wrap(4, never));
+            check.refuses("write in a crowd", BAD, () -> crowdedRead().write(never));
+        }
         NameWriter x = wronglyRead();
         check.answers("another reading", 11, () -> Check.read(x, "_Z1aii"));
         check.same("its table", Check.tableOf(x), "");
