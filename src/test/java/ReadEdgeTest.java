@@ -308,8 +308,11 @@ public final class ReadEdgeTest {
         deepens(6, "_Z1fA1_FvK(P)iE");
         nests("1aI", "E", 3, 1);
         nests("1aIi", "E", 3, 1);
+        nests("1aIii", "E", 3, 1);
         nests("F", "vE", 3, 1);
+        nests("Fi", "E", 3, 1);
         nests("Fii", "E", 3, 1);
+        nests("Fiii", "E", 3, 1);
         nests("N1a1bI", "EE", 4, 1);
         nests("N1aI", "E1bE", 4, 2);
         nests("KP", "", 4, 2);

@@ -15,6 +15,7 @@ public final class WriteEdgeTest {
         prefixes();
         types();
         entities();
+        check.sentence("it is at most 16.", WriteEdgeTest::deepest);
         promise12();
         check.end();
     }
@@ -220,6 +221,55 @@ public final class WriteEdgeTest {
             writes(x, x.entity(3, x.builtin(0), NONE, NONE, NONE), "_Z1aIiEvv", "a");
             writes(x, x.entity(x.member(3, 'm'), NONE, NONE, NONE, NONE), "_ZN1aIiE1mEv", "a a<i>");
         });
+    }
+
+    /** A call that puts one more node around a part. */
+    private interface Wrapping {
+        int around(NameWriter x, int part);
+    }
+
+    /** Nodes nested in each way until the entity's DEPTH is 16: all of them are written. */
+    private static void deepest() {
+        nests(14, "P", "P", "", (x, part) -> x.wrap(4, part));
+        nests(14, "A9_", "A9_", "", (x, part) -> x.array(part, 9));
+        nests(14, "F", "F", "vE", (x, part) -> x.function(part, NONE, NONE, NONE));
+        nests(14, "Fi", "Fi", "E", (x, part) -> x.function(0, part, NONE, NONE));
+        nests(14, "Fii", "Fii", "E", (x, part) -> x.function(0, 0, part, NONE));
+        nests(14, "Fiii", "Fiii", "E", (x, part) -> x.function(0, 0, 0, part));
+        nests(14, "1aI", "S_I", "E", (x, part) -> x.fill(1, part, NONE, NONE));
+        nests(14, "1aIi", "S_Ii", "E", (x, part) -> x.fill(1, 0, part, NONE));
+        nests(14, "1aIii", "S_Iii", "E", (x, part) -> x.fill(1, 0, 0, part));
+        nests(13, "N1a1bI", "NS0_I", "EE", (x, part) -> x.fill(2, part, NONE, NONE));
+        nests(7, "N1aI", "NS_I", "E1qE", (x, part) -> x.member(x.fill(1, part, NONE, NONE), 'q'));
+        scopes(14, "1m", (x, part) -> x.member(part, 'm'));
+        scopes(7, "IiE1m", (x, part) -> x.member(x.fill(part, 0, NONE, NONE), 'm'));
+    }
+
+    /** A parameter that begins with i; what is ahead of it is written in another way behind the outermost. */
+    private static void nests(int count, String outermost, String ahead, String behind, Wrapping wrapping) {
+        NameWriter x = Zoo.make();
+        int part = 0;
+        for (int n = 0; n < count; n++) {
+            part = wrapping.around(x, part);
+        }
+        hasDepth16(x, x.entity(1, NONE, part, NONE, NONE), "_Z1a" + outermost + ahead.repeat(count - 1) + "i" + behind.repeat(count));
+    }
+
+    /** A SCOPED that begins with a. */
+    private static void scopes(int count, String step, Wrapping wrapping) {
+        NameWriter x = Zoo.make();
+        int part = 1;
+        for (int n = 0; n < count; n++) {
+            part = wrapping.around(x, part);
+        }
+        hasDepth16(x, x.entity(part, NONE, NONE, NONE, NONE), "_ZN1a" + step.repeat(count) + "Ev");
+        hasDepth16(x, x.entity(1, NONE, part, NONE, NONE), "_Z1aN1a" + step.repeat(count) + "E");
+    }
+
+    private static void hasDepth16(NameWriter x, int entity, String due) {
+        check.answers("the depth of " + due, 16, () -> x.of(entity, 7));
+        check.answers("write " + due, due.length(), () -> x.write(entity));
+        check.same("the text", Check.textOf(x), due);
     }
 
     private static void promise12() {
