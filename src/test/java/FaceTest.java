@@ -7,16 +7,20 @@ import java.nio.file.Files;
 import java.nio.file.Path;
 import java.util.Arrays;
 import java.util.TreeSet;
+import java.util.stream.Collectors;
 
 /** The public face is the document's, and the source holds nothing that the language's rules leave out. */
 public final class FaceTest {
     private static final Check check = new Check();
 
+    private static final String MAKES = " throws IllegalArgumentException,IllegalStateException";
+
     private static final String[] FACE = {
-        "int builtin(int)", "int name(int)", "int member(int,int)", "int fill(int,int,int,int)", "int wrap(int,int)",
-        "int array(int,int)", "int function(int,int,int,int)", "int literal(int,int)", "int entity(int,int,int,int,int)",
-        "int of(int,int)", "int write(int)", "boolean type(long)", "void wipe()", "int text(int)", "int read()",
-        "int table(int)", "int look(int)",
+        "int builtin(int)" + MAKES, "int name(int)" + MAKES, "int member(int,int)" + MAKES, "int fill(int,int,int,int)" + MAKES,
+        "int wrap(int,int)" + MAKES, "int array(int,int)" + MAKES, "int function(int,int,int,int)" + MAKES,
+        "int literal(int,int)" + MAKES, "int entity(int,int,int,int,int)" + MAKES, "int of(int,int)",
+        "int write(int) throws IllegalArgumentException,UnsupportedOperationException", "boolean type(long)", "void wipe()",
+        "int text(int)", "int read()" + MAKES, "int table(int)", "int look(int)",
     };
 
     /** What no program within the rules of the language has outside comments and texts. */
@@ -40,8 +44,7 @@ public final class FaceTest {
         for (Method method : NameWriter.class.getDeclaredMethods()) {
             if (!Modifier.isPrivate(method.getModifiers())) {
                 check.same(method + " is public", Modifier.isPublic(method.getModifiers()), true);
-                String taken = Arrays.toString(method.getParameterTypes()).replaceAll("[\\[\\] ]", "");
-                open.add(method.getReturnType() + " " + method.getName() + "(" + taken + ")");
+                open.add(told(method));
                 names.add(method.getName());
             }
         }
@@ -51,6 +54,16 @@ public final class FaceTest {
             privateNames(inner, names);
         }
         privateNames(NameWriter.class, names);
+    }
+
+    private static String told(Method method) {
+        String thrown = names(method.getExceptionTypes());
+        return method.getReturnType() + " " + method.getName() + "(" + names(method.getParameterTypes()) + ")"
+            + (thrown.isEmpty() ? "" : " throws " + thrown);
+    }
+
+    private static String names(Class<?>[] types) {
+        return Arrays.stream(types).map(Class::getSimpleName).collect(Collectors.joining(","));
     }
 
     private static void privateNames(Class<?> owner, TreeSet<String> names) {
@@ -70,7 +83,11 @@ public final class FaceTest {
         for (Field field : NameWriter.class.getDeclaredFields()) {
             boolean isPrivate = Modifier.isPrivate(field.getModifiers());
             check.same(field + " is private", isPrivate, !field.getName().equals("NONE"));
+            if (field.getName().equals("NONE")) {
+                check.same("the constant", field.toString(), "public static final int NameWriter.NONE");
+            }
         }
+        check.same("the constructor", constructors[0].toString(), "public NameWriter()");
     }
 
     private static void source() throws IOException {
