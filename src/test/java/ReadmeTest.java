@@ -1,16 +1,12 @@
-import java.io.ByteArrayOutputStream;
+import java.io.File;
 import java.io.IOException;
-import java.io.PrintStream;
 import java.lang.reflect.Method;
 import java.lang.reflect.Modifier;
-import java.net.URL;
-import java.net.URLClassLoader;
 import java.nio.file.Files;
 import java.nio.file.Path;
 import java.util.TreeSet;
 import java.util.regex.Matcher;
 import java.util.regex.Pattern;
-import javax.tools.ToolProvider;
 
 /** README.md is true: its program prints what it says, and its calls and tests are those that there are. */
 public final class ReadmeTest {
@@ -35,26 +31,21 @@ public final class ReadmeTest {
         Path folder = Files.createTempDirectory("readme");
         Path source = folder.resolve("Example.java");
         Files.writeString(source, program);
-        int failed = ToolProvider.getSystemJavaCompiler().run(null, null, null, "-cp", System.getProperty("java.class.path"),
-            "-d", folder.toString(), source.toString());
-        String output = failed == 0 ? run(folder) : "it does not compile";
-        for (String file : new String[] {"Example.java", "Example.class"}) {
-            Files.deleteIfExists(folder.resolve(file));
-        }
+        String classes = System.getProperty("java.class.path") + File.pathSeparator + folder;
+        String output = run("javac", "-cp", classes, "-d", folder.toString(), source.toString())
+            + run("java", "-cp", classes, "Example");
+        Files.deleteIfExists(folder.resolve("Example.class"));
+        Files.delete(source);
         Files.delete(folder);
         return output;
     }
 
-    private static String run(Path folder) throws Exception {
-        ByteArrayOutputStream printed = new ByteArrayOutputStream();
-        PrintStream before = System.out;
-        try (URLClassLoader loader = new URLClassLoader(new URL[] {folder.toUri().toURL()})) {
-            System.setOut(new PrintStream(printed, true));
-            loader.loadClass("Example").getMethod("main", String[].class).invoke(null, (Object) new String[0]);
-        } finally {
-            System.setOut(before);
-        }
-        return printed.toString().replace(System.lineSeparator(), "\n");
+    /** What the command prints; its errors go where this test's go. */
+    private static String run(String... command) throws Exception {
+        Process process = new ProcessBuilder(command).redirectError(ProcessBuilder.Redirect.INHERIT).start();
+        String printed = new String(process.getInputStream().readAllBytes());
+        process.waitFor();
+        return printed.replace(System.lineSeparator(), "\n");
     }
 
     /** Each call of the class has its row, with as many arguments as it takes, and no other call has one. */
